@@ -8,6 +8,7 @@ public final class BlameIsFurniture {
   private static final int BELOW = -4;
   private static final int ABOVE = -6;
   private static final int NONE = -9;
+  private static final int FINE = 0;
 
   private static final int ROOMS = 6;
   private static final int ATTIC = 9;
@@ -27,10 +28,9 @@ public final class BlameIsFurniture {
 
   private static final int MOST_PIECES = 7;
   private static final int MOST_PIECES_PLACED = 5;
-  private static final int MOST_BULK = 9;
   private static final int MOST_FAULT = 9;
   private static final int MOST_AGE = 99;
-  private static final int PLAIN = 0;
+  // Kind 0, the plain one, is what every kind is where nothing else is told.
   private static final int SUITE = 1;
   private static final int VENEER = 2;
   private static final int CLOCK = 3;
@@ -246,11 +246,9 @@ public final class BlameIsFurniture {
   }
 
   public int later(int n) {
-    if (n < 0) {
-      return answer(BELOW);
-    }
-    if (n > MOST_YEARS_AHEAD) {
-      return answer(ABOVE);
+    int refusal = refusalOutside(n, 0, MOST_YEARS_AHEAD);
+    if (refusal != FINE) {
+      return answer(refusal);
     }
     House ahead = thoughtOfNow();
     for (int year = 0; year < n; year++) {
@@ -260,8 +258,9 @@ public final class BlameIsFurniture {
   }
 
   public int gone(int v) {
-    if (!canBeBlameOfAll(v)) {
-      return answer(refusalOfBlame(v));
+    int refusal = refusalOutside(v, 0, MOST_TOLD_BLAME);
+    if (refusal != FINE) {
+      return answer(refusal);
     }
     House ahead = thoughtOfNow();
     for (int year = 0; year <= MOST_YEARS_AHEAD; year++) {
@@ -274,8 +273,9 @@ public final class BlameIsFurniture {
   }
 
   public int whose(int v) {
-    if (!canBeBlameOfAll(v)) {
-      return answer(refusalOfBlame(v));
+    int refusal = refusalOutside(v, 0, MOST_TOLD_BLAME);
+    if (refusal != FINE) {
+      return answer(refusal);
     }
     int bits = 0;
     for (int i = 0; i < now.pieces; i++) {
@@ -287,8 +287,9 @@ public final class BlameIsFurniture {
   }
 
   public int ask(int v) {
-    if (!canBeBlameOfAll(v)) {
-      return answer(refusalOfBlame(v));
+    int refusal = refusalOutside(v, 0, MOST_TOLD_BLAME);
+    if (refusal != FINE) {
+      return answer(refusal);
     }
     int asked = NONE;
     int most = NONE;
@@ -374,11 +375,9 @@ public final class BlameIsFurniture {
   }
 
   public int lots(int n, int z) {
-    if (n < 1) {
-      return answer(BELOW);
-    }
-    if (n > MOST_LOTS) {
-      return answer(ABOVE);
+    int refusal = refusalOutside(n, 1, MOST_LOTS);
+    if (refusal != FINE) {
+      return answer(refusal);
     }
     House drawn = thoughtOfNow();
     int seed = z;
@@ -435,6 +434,13 @@ public final class BlameIsFurniture {
     return thought;
   }
 
+  private static int refusalOutside(int v, int least, int most) {
+    if (v < least) {
+      return BELOW;
+    }
+    return v > most ? ABOVE : FINE;
+  }
+
   /** -1 stands for all. */
   private static boolean isAllOrOneOf(int i, int howMany) {
     return i >= -1 && i < howMany;
@@ -442,14 +448,6 @@ public final class BlameIsFurniture {
 
   private static int refusalOf(int i) {
     return i < -1 ? BELOW : NOBODY;
-  }
-
-  private static boolean canBeBlameOfAll(int v) {
-    return v >= 0 && v <= MOST_TOLD_BLAME;
-  }
-
-  private static int refusalOfBlame(int v) {
-    return v < 0 ? BELOW : ABOVE;
   }
 
   private int blameWithout(int piece) {
@@ -768,11 +766,9 @@ public final class BlameIsFurniture {
       if (!isRoom(room)) {
         return NOBODY;
       }
-      if (v < 0) {
-        return BELOW;
-      }
-      if (v > MOST_SIZE) {
-        return ABOVE;
+      int refusal = refusalOutside(v, 0, MOST_SIZE);
+      if (refusal != FINE) {
+        return refusal;
       }
       if (v < bulkIn(room)) {
         return STATE;
@@ -786,11 +782,9 @@ public final class BlameIsFurniture {
       if (!hasStairs(floor)) {
         return NOBODY;
       }
-      if (v < 0) {
-        return BELOW;
-      }
-      if (v > MOST_WIDE) {
-        return ABOVE;
+      int refusal = refusalOutside(v, 0, MOST_WIDE);
+      if (refusal != FINE) {
+        return refusal;
       }
       int was = wideOfStairs[floor];
       wideOfStairs[floor] = v;
@@ -798,11 +792,9 @@ public final class BlameIsFurniture {
     }
 
     private int nameHeirs(int n) {
-      if (n < LEAST_HEIRS) {
-        return BELOW;
-      }
-      if (n > MOST_HEIRS) {
-        return ABOVE;
+      int refusal = refusalOutside(n, LEAST_HEIRS, MOST_HEIRS);
+      if (refusal != FINE) {
+        return refusal;
       }
       int were = heirs;
       heirs = n;
@@ -810,11 +802,9 @@ public final class BlameIsFurniture {
     }
 
     private int letYearsGoBy(int n) {
-      if (n < 1) {
-        return BELOW;
-      }
-      if (n > MOST_YEARS_AT_ONCE || year + n > MOST_YEAR) {
-        return ABOVE;
+      int refusal = refusalOutside(n, 1, Math.min(MOST_YEARS_AT_ONCE, MOST_YEAR - year));
+      if (refusal != FINE) {
+        return refusal;
       }
       for (int passed = 0; passed < n; passed++) {
         passYear();

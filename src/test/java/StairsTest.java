@@ -24,6 +24,8 @@ final class StairsTest {
     Due.due("a wardrobe on its floor", x.wider(1, 1, 3), 0);
     Due.due("the stairs are as they were", x.wide(1, 6), 6);
     Due.due("the stairs are as they were", x.wide(2, 9), 4);
+    Due.due("the widest stairs", Due.told("ip9000;m00;").wider(1, 0, 2), 9);
+    Due.due("no stairs are so narrow", Due.told("iv1000;m00;").wider(1, 0, 2), 0);
     x.carry(0, 5);
     Due.due("down", x.wider(2, 0, 3), 5);
     Due.due("from the attic", Due.told("ip9000;").wider(2, 0, 5), 0);
@@ -67,6 +69,7 @@ final class StairsTest {
       Due.due("guest(" + room + ")", x.guest(room), -1);
     }
     Due.refusals(x, 4, 0, 0, 0, 0, 0);
+    Due.due("the first", Due.told("ip1000;ip1000;").guest(9), 0);
     Due.due("by blame, not by fault", Due.told("iw1300;ip1400;").guest(9), 1);
   }
 }

@@ -124,6 +124,8 @@ final class ThinkingTest {
     Due.due("ask(-1)", x.ask(-1), -4);
     Due.due("ask(1000)", x.ask(1000), -6);
     Due.refusals(x, 0, 0, 0, 1, 0, 1);
+    Due.due("only 9 is v or more", Due.told("ip1400;ip1300;").ask(13), 1);
+    Due.due("4 and 6, 6 and 4", Due.told("ip1300;ip1500;").ask(9), 0);
     Due.due("nobody to ask", new BlameIsFurniture().ask(0), -9);
     Due.due("nobody to ask, and no such number", new BlameIsFurniture().ask(1000), -6);
   }
