@@ -34,6 +34,10 @@ final class FaceTest {
             Modifier.isPublic(method.getModifiers()) && method.getReturnType() == int.class ? 1 : 0, 1);
       }
     }
+    int isPublicAndFinal = Modifier.PUBLIC | Modifier.FINAL;
+    Due.due("the class is public and final", BlameIsFurniture.class.getModifiers() & isPublicAndFinal, isPublicAndFinal);
+    Due.due("one constructor", BlameIsFurniture.class.getDeclaredConstructors().length, 1);
+    Due.due("a public one of no parameters", BlameIsFurniture.class.getConstructors()[0].getParameterCount(), 0);
     Due.due("the methods are those of the document", got.equals(new TreeSet<>(Set.of(METHODS))) ? 1 : 0, 1);
     for (Class<?> inside : BlameIsFurniture.class.getDeclaredClasses()) {
       Due.due(inside + " is static", Modifier.isStatic(inside.getModifiers()) ? 1 : 0, 1);

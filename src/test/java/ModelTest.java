@@ -5,7 +5,11 @@ final class ModelTest {
   private static final String[] CALLS = {"house", "piece", "carry", "stands", "polish", "size", "wide", "heirs", "years", "blame",
       "worst", "crowded", "placing", "innocent", "shares", "dealt", "envy", "choice", "sell", "burn", "heavier", "later", "gone", "whose",
       "ask", "wider", "bigger", "guest", "row", "fits", "judge", "lots", "image", "on", "count"};
-  private static final int RUNS = 300;
+  private static final int RUNS = 400;
+  // What an object answers behind its 512th call is free: room is left for a text of 96 letters and for the last look at all.
+  private static final int CALLS_BY_LOT = 512 - 97 - 67;
+
+  private static int calls = 0;
 
   public static void main(String[] args) {
     for (int run = 0; run < RUNS; run++) {
@@ -16,11 +20,12 @@ final class ModelTest {
 
   private static void run(int run) {
     SplittableRandom lot = new SplittableRandom(run);
+    calls = 0;
     BlameIsFurniture x = new BlameIsFurniture();
     Model model = new Model();
     tell(x, model, run, run % 7 == 0 ? "" : pieces(lot, 1 + lot.nextInt(7)));
     tell(x, model, run, "r015;r118;r220;r312;r420;r519;");
-    for (int call = 0; call < 400; call++) {
+    while (calls < CALLS_BY_LOT) {
       int kind = lot.nextInt(100);
       if (kind < 4) {
         tell(x, model, run, text(lot));
@@ -108,6 +113,7 @@ final class ModelTest {
   }
 
   private static void both(BlameIsFurniture x, Model model, int run, String name, int a, int b, int c) {
+    calls++;
     Due.due("run " + run + ": " + name + "(" + a + ", " + b + ", " + c + ")", Calls.call(x, name, a, b, c), model.call(name, a, b, c));
   }
 }
