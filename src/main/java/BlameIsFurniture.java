@@ -55,7 +55,10 @@ public final class BlameIsFurniture {
   private static final int MOST_LOTS = 20;
   private static final int WORST = 0;
   private static final int FEW = 1;
-  private static final int UNFOUND = Integer.MAX_VALUE;
+  // Above whatever a placing costs and a sharing spreads.
+  private static final int UNFOUND = 1000000;
+
+  private static final int ALL_BUT_THE_SIGN = 0x7fffffff;
 
   private final House now = new House();
   // In it calls try what might be, so that none of them makes a house of its own.
@@ -504,7 +507,7 @@ public final class BlameIsFurniture {
   }
 
   private static int drawnBelow(int m, int seed) {
-    return m > 0 ? ((seed & Integer.MAX_VALUE) / 256) % m : 0;
+    return m > 0 ? ((seed & ALL_BUT_THE_SIGN) / 256) % m : 0;
   }
 
   private static boolean isRoom(int room) {

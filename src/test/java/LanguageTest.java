@@ -8,7 +8,9 @@ import java.util.regex.Pattern;
 final class LanguageTest {
   private static final Path PROGRAM = Path.of("src/main/java/BlameIsFurniture.java");
   private static final String[] RULED_OUT = {"\\b(throw|throws|try|catch|synchronized|assert|package|native|volatile|transient)\\b",
-      "->", "::", "\\bvar\\b", "\\byield\\b", "\\b(equals|hashCode|toString)\\s*\\(", "\\bSystem\\.(?!arraycopy)", "Exact\\b",
+      "->", "::", "\\bvar\\b", "\\byield\\b", "\\b(equals|hashCode|toString)\\s*\\(", "\\bSystem\\.(?!arraycopy\\()", "Exact\\b",
+      "\\b(Integer|Long|Math)\\.(?![a-z]\\w*\\()", "\\bArrays\\.(?!(copyOf|copyOfRange|fill)\\()", "\\bList\\.(?!of\\()",
+      "\\b(Character|Boolean|Byte|Short|Double|Float|Objects|Collections)\\b",
       "\\bnew\\s+\\w+\\s*\\([^()]*\\)\\s*\\{", "\"\\s*\\+|\\+\\s*\"", "\\b(HashMap|Map|Set|Random|Thread|Object|Class|Stream|Optional)\\b",
       "^import (?!java\\.util\\.(Arrays|ArrayList|List|Iterator);)", "[^\\x00-\\x7f]", "^\\s*static\\s*\\{", "\\bwhile\\s*\\(true\\)"};
 
